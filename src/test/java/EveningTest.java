@@ -345,6 +345,18 @@ public final class EveningTest {
         x.run(2);
         Check.due("P16 nor has one in a new evening", 1, x::joining);
 
+        // 13 less 4 is 3 times 3, and 12 less 4 is not.
+        for (int second : new int[] {4, 3}) {
+            ClaqueRow four = claque(9, second);
+            seat(four, "h.", "3r", "h.");
+            four.addCue(0, 'c', 0, 1, 30);
+            four.run(2);
+            Check.due("P16 9 and " + second + " ahead of the hiss", 1, four::joining);
+            Check.due("P17 9 and " + second, 1, four::hisses);
+            four.run(1);
+            Check.due("P16 9 and " + second + " behind it", second == 4 ? 1 : 0, four::joining);
+        }
+
         // Two rivals beside each other hear 14 both: they hiss, hear 10, are silent, hear 14 ..
         ClaqueRow y = claque(7, 7);
         seat(y, "rr", "hh");

@@ -75,7 +75,7 @@ public final class ModelTest {
         try {
             return (claque instanceof ClaqueRow ? method : PLAIN.get(method)).invoke(claque, arguments);
         } catch (InvocationTargetException e) {
-            return e.getCause().getClass();
+            return claque instanceof ClaqueRow ? Check.thrown(e.getCause()) : e.getCause().getClass();
         }
     }
 
