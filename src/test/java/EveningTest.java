@@ -31,34 +31,6 @@ public final class EveningTest {
         Check.end("EveningTest");
     }
 
-    /** A row of seats by signs: '1' to '9' payers of that threshold, 'r' rivals, 'h' hands in their order. */
-    private static void seat(ClaqueRow x, String... rows) {
-        x.newHouse(rows.length, rows[0].length());
-        int hand = 0;
-        for (int row = 0; row < rows.length; row++) {
-            for (int seat = 0; seat < rows[row].length(); seat++) {
-                char sign = rows[row].charAt(seat);
-                if (sign == 'r') {
-                    x.seatRival(row, seat);
-                } else if (sign == 'h') {
-                    x.seatHand(hand++, row, seat);
-                } else if (sign != '.') {
-                    x.seatPayer(row, seat, sign - '0');
-                }
-            }
-        }
-    }
-
-    /** Hands who do all of it, of these strengths, and a singer, 50 for the night and 7 for a call. */
-    private static ClaqueRow claque(int... strengths) {
-        ClaqueRow x = new ClaqueRow();
-        for (int strength : strengths) {
-            x.addHand('a', strength, 0, 0);
-        }
-        x.addSinger(50, 7);
-        return x;
-    }
-
     private static void example() {
         ClaqueRow x = new ClaqueRow();
         Check.due("example", 2, () -> x.newHouse(1, 2));
@@ -103,7 +75,7 @@ public final class EveningTest {
             }
             x.addHand('a', 1, 0, 0);
             x.addSinger(0, 0);
-            seat(x, "h.h.h.h.h");
+            Scene.seat(x, "h.h.h.h.h");
             x.addCue(0, cue, 0, 3, 1);
             x.run(1);
             for (int i = 0; i < 4; i++) {
@@ -113,9 +85,9 @@ public final class EveningTest {
             }
             Check.due("P14 hand a by cue " + cue, 3, () -> x.noiseAt(0, 8));
         }
-        ClaqueRow x = claque(2, 4, 5);
+        ClaqueRow x = Scene.claque(2, 4, 5);
         x.addHand('w', 2, 0, 0);
-        seat(x, "hhhh");
+        Scene.seat(x, "hhhh");
         x.addCue(0, 'c', 0, 1, 9);
         x.addCue(0, 'l', 1, 2, 1);
         x.addCue(0, 'w', 1, 1, 1);
@@ -140,8 +112,8 @@ public final class EveningTest {
     }
 
     private static void cueIsOnForItsTicks() {
-        ClaqueRow x = claque(3);
-        seat(x, "h");
+        ClaqueRow x = Scene.claque(3);
+        Scene.seat(x, "h");
         x.addCue(0, 'c', 2, 1, 3);
         int[] want = {0, 0, 3, 3, 3, 0, 0};
         for (int i = 0; i < want.length; i++) {
@@ -165,8 +137,8 @@ public final class EveningTest {
     private static void joinsFromThreeTimesTheThreshold() {
         for (int threshold = 1; threshold <= 9; threshold++) {
             for (int strength = 1; strength <= 9; strength++) {
-                ClaqueRow x = claque(strength, strength, strength);
-                seat(x, "h" + threshold + "h", "h..");
+                ClaqueRow x = Scene.claque(strength, strength, strength);
+                Scene.seat(x, "h" + threshold + "h", "h..");
                 x.addCue(0, 'c', 0, 1, 30);
                 x.run(2);
                 boolean joins = 3 * strength >= 3 * threshold;
@@ -176,13 +148,13 @@ public final class EveningTest {
                 Check.due("P14 " + what, noise, () -> x.noiseAt(0, 1));
             }
         }
-        ClaqueRow x = claque(4, 4);
-        seat(x, "h3h");
+        ClaqueRow x = Scene.claque(4, 4);
+        Scene.seat(x, "h3h");
         x.addCue(0, 'c', 0, 1, 30);
         x.run(2);
         Check.due("P16 8 is not 9", 0, x::joining);
-        ClaqueRow y = claque(5, 5);
-        seat(y, "h3h");
+        ClaqueRow y = Scene.claque(5, 5);
+        Scene.seat(y, "h3h");
         y.addCue(0, 'c', 0, 1, 30);
         y.run(2);
         Check.due("P16 10 is 9 and more", 1, y::joining);
@@ -192,15 +164,15 @@ public final class EveningTest {
     private static void noiseOfJoining() {
         int[][] soundsOf = {{3, 1}, {4, 1}, {7, 1}, {8, 2}, {9, 2}};
         for (int[] s : soundsOf) {
-            ClaqueRow x = claque(s[0]);
-            seat(x, "h1");
+            ClaqueRow x = Scene.claque(s[0]);
+            Scene.seat(x, "h1");
             x.addCue(0, 'c', 0, 1, 30);
             x.run(2);
             Check.due("P14 by " + s[0], s[1], () -> x.noiseAt(0, 1));
         }
         int[] ofHands = {9, 9, 9, 9, 9, 9, 9, 9};
-        ClaqueRow x = claque(ofHands);
-        seat(x, "hhh", "h9h", "hhh");
+        ClaqueRow x = Scene.claque(ofHands);
+        Scene.seat(x, "hhh", "h9h", "hhh");
         x.addCue(0, 'c', 0, 1, 30);
         x.run(2);
         Check.due("P14 by 72, 9 at most", 9, () -> x.noiseAt(1, 1));
@@ -212,16 +184,16 @@ public final class EveningTest {
         x.addCue(0, 'c', 2, 1, 1);
         x.run(1);
         Check.due("P14 by 45", 9, () -> x.noiseAt(1, 1));
-        ClaqueRow y = claque(9, 9, 9, 8);
-        seat(y, "hhh", "h9.");
+        ClaqueRow y = Scene.claque(9, 9, 9, 8);
+        Scene.seat(y, "hhh", "h9.");
         y.addCue(0, 'c', 0, 1, 30);
         y.run(2);
         Check.due("P14 by 35", 8, () -> y.noiseAt(1, 1));
     }
 
     private static void fades() {
-        ClaqueRow x = claque(9, 9);
-        seat(x, "h1h");
+        ClaqueRow x = Scene.claque(9, 9);
+        Scene.seat(x, "h1h");
         x.addCue(0, 'c', 0, 1, 1);
         x.run(1);
         Check.due("P14 nothing ahead of tick 0", 0, () -> x.noiseAt(0, 1));
@@ -234,33 +206,33 @@ public final class EveningTest {
     }
 
     private static void neighbours() {
-        ClaqueRow x = claque(9);
-        seat(x, "111", "1h1", "111");
+        ClaqueRow x = Scene.claque(9);
+        Scene.seat(x, "111", "1h1", "111");
         x.addCue(0, 'c', 0, 1, 1);
         x.run(2);
         Check.due("P16 beside, ahead, behind, at the corners", 8, x::joining);
-        ClaqueRow y = claque(9);
-        seat(y, "11111", "1...1", "1.h.1", "1...1", "11111");
+        ClaqueRow y = Scene.claque(9);
+        Scene.seat(y, "11111", "1...1", "1.h.1", "1...1", "11111");
         y.addCue(0, 'c', 0, 1, 30);
         y.run(30);
         Check.due("P16 two seats away", 0, y::joining);
-        ClaqueRow z = claque(9, 9);
-        seat(z, "1........h", "1........1", "h........1");
+        ClaqueRow z = Scene.claque(9, 9);
+        Scene.seat(z, "1........h", "1........1", "h........1");
         z.addCue(0, 'c', 0, 1, 1);
         z.run(2);
         Check.due("P14 not round the row's end", 0, () -> z.noiseAt(0, 0));
         Check.due("P14 beside", 2, () -> z.noiseAt(1, 0));
         Check.due("P14 behind", 2, () -> z.noiseAt(1, 9));
         Check.due("P14 not round the row's beginning", 0, () -> z.noiseAt(2, 9));
-        ClaqueRow own = claque(9);
-        seat(own, "1h");
+        ClaqueRow own = Scene.claque(9);
+        Scene.seat(own, "1h");
         own.addCue(0, 'c', 0, 1, 1);
         own.run(2);
         own.clearSeat(0, 1);
         own.run(1);
         Check.due("P16 nobody is a neighbour of oneself", 0, own::joining);
-        ClaqueRow tall = claque(9, 9);
-        seat(tall, "h", "1", "1", ".", ".", "1", "1", "h");
+        ClaqueRow tall = Scene.claque(9, 9);
+        Scene.seat(tall, "h", "1", "1", ".", ".", "1", "1", "h");
         tall.addCue(0, 'c', 0, 1, 1);
         tall.run(2);
         Check.due("P14 in one column", 2, () -> tall.noiseAt(1, 0));
@@ -269,8 +241,8 @@ public final class EveningTest {
     }
 
     private static void madeOfTheTickAhead() {
-        ClaqueRow x = claque(9, 9);
-        seat(x, "h11", "h..");
+        ClaqueRow x = Scene.claque(9, 9);
+        Scene.seat(x, "h11", "h..");
         x.addCue(0, 'c', 0, 1, 1);
         x.run(2);
         Check.due("P14 by 18", 4, () -> x.noiseAt(0, 1));
@@ -278,8 +250,8 @@ public final class EveningTest {
         x.run(1);
         Check.due("P14 fades", 3, () -> x.noiseAt(0, 1));
         Check.due("P14 by 4", 1, () -> x.noiseAt(0, 2));
-        ClaqueRow y = claque(9, 9);
-        seat(y, "11h", "..h");
+        ClaqueRow y = Scene.claque(9, 9);
+        Scene.seat(y, "11h", "..h");
         y.addCue(0, 'c', 0, 1, 1);
         y.run(2);
         Check.due("P14 the same from the other side", 0, () -> y.noiseAt(0, 0));
@@ -288,8 +260,8 @@ public final class EveningTest {
     }
 
     private static void rivalsHiss() {
-        ClaqueRow x = claque(6, 6);
-        seat(x, "hrh");
+        ClaqueRow x = Scene.claque(6, 6);
+        Scene.seat(x, "hrh");
         x.addCue(0, 'c', 0, 1, 3);
         x.run(1);
         Check.due("P17 nothing ahead of tick 0", 0, x::hisses);
@@ -301,23 +273,23 @@ public final class EveningTest {
         Check.due("P17 once in each tick", 3, x::hisses);
         x.clearSeat(0, 1);
         Check.due("P17 how often stays told", 3, x::hisses);
-        ClaqueRow y = claque(6, 5);
-        seat(y, "hrh");
+        ClaqueRow y = Scene.claque(6, 5);
+        Scene.seat(y, "hrh");
         y.addCue(0, 'c', 0, 1, 3);
         y.run(9);
         Check.due("P17 11 is not 12", 0, y::hisses);
-        ClaqueRow z = claque(9, 9);
-        seat(z, "hrh", "r.r");
+        ClaqueRow z = Scene.claque(9, 9);
+        Scene.seat(z, "hrh", "r.r");
         z.addCue(0, 'c', 0, 1, 1);
         z.run(2);
         Check.due("P17 one by 18, two by 9", 1, z::hisses);
-        ClaqueRow two = claque(9, 9);
-        seat(two, "h.h", "rrr", "...");
+        ClaqueRow two = Scene.claque(9, 9);
+        Scene.seat(two, "h.h", "rrr", "...");
         two.addCue(0, 'c', 0, 1, 1);
         two.run(2);
         Check.due("P17 by 18", 1, two::hisses);
-        ClaqueRow each = claque(9, 9);
-        seat(each, "rr", "hh", "rr");
+        ClaqueRow each = Scene.claque(9, 9);
+        Scene.seat(each, "rr", "hh", "rr");
         each.addCue(0, 'c', 0, 1, 1);
         each.run(2);
         Check.due("P17 each rival counts", 4, each::hisses);
@@ -327,8 +299,8 @@ public final class EveningTest {
 
     private static void hissTakesFour() {
         // The hands around the payer in the middle make 18, the rival beside it hisses by 18.
-        ClaqueRow x = claque(9, 9);
-        seat(x, "h.", "6r", "h.");
+        ClaqueRow x = Scene.claque(9, 9);
+        Scene.seat(x, "h.", "6r", "h.");
         x.addCue(0, 'c', 0, 1, 30);
         x.run(2);
         Check.due("P16 18 ahead of the hiss", 1, x::joining);
@@ -347,8 +319,8 @@ public final class EveningTest {
 
         // 13 less 4 is 3 times 3, and 12 less 4 is not.
         for (int second : new int[] {4, 3}) {
-            ClaqueRow four = claque(9, second);
-            seat(four, "h.", "3r", "h.");
+            ClaqueRow four = Scene.claque(9, second);
+            Scene.seat(four, "h.", "3r", "h.");
             four.addCue(0, 'c', 0, 1, 30);
             four.run(2);
             Check.due("P16 9 and " + second + " ahead of the hiss", 1, four::joining);
@@ -358,8 +330,8 @@ public final class EveningTest {
         }
 
         // Two rivals beside each other hear 14 both: they hiss, hear 10, are silent, hear 14 ..
-        ClaqueRow y = claque(7, 7);
-        seat(y, "rr", "hh");
+        ClaqueRow y = Scene.claque(7, 7);
+        Scene.seat(y, "rr", "hh");
         y.addCue(0, 'c', 0, 1, 30);
         int[] want = {0, 2, 2, 4, 4, 6};
         for (int i = 0; i < want.length; i++) {
@@ -369,8 +341,8 @@ public final class EveningTest {
         }
 
         // Rivals that do not hiss take nothing.
-        ClaqueRow z = claque(6);
-        seat(z, "h2r");
+        ClaqueRow z = Scene.claque(6);
+        Scene.seat(z, "h2r");
         z.addCue(0, 'c', 0, 1, 30);
         z.run(5);
         Check.due("P16 by 6 in each tick", 1, z::joining);
@@ -378,8 +350,8 @@ public final class EveningTest {
     }
 
     private static void tiredness() {
-        ClaqueRow x = claque(9);
-        seat(x, "h2r.");
+        ClaqueRow x = Scene.claque(9);
+        Scene.seat(x, "h2r.");
         x.addCue(0, 'c', 0, 1, 30);
         Check.due("P18 at first", 0, () -> x.tiredness(0, 1));
         x.run(10);
@@ -410,8 +382,8 @@ public final class EveningTest {
     }
 
     private static void calls() {
-        ClaqueRow x = claque(9);
-        seat(x, "h");
+        ClaqueRow x = Scene.claque(9);
+        Scene.seat(x, "h");
         x.setLevel(9);
         x.addCue(0, 'c', 0, 1, 30);
         int[] want = {0, 0, 0, 0, 1, 1, 1, 1, 1, 2, 2, 2, 2, 2, 3};
@@ -425,8 +397,8 @@ public final class EveningTest {
         Check.due("P20 gone behind the evening", 0, x::calls);
         Check.due("P19 gone behind the evening", 0, () -> x.callsOf(0));
 
-        ClaqueRow y = claque(9);
-        seat(y, "h");
+        ClaqueRow y = Scene.claque(9);
+        Scene.seat(y, "h");
         y.setLevel(9);
         y.addCue(0, 'c', 0, 1, 4);
         y.addCue(0, 'c', 5, 1, 4);
@@ -438,8 +410,8 @@ public final class EveningTest {
         y.run(20);
         Check.due("P20 by whatever cues", 1, y::calls);
 
-        ClaqueRow z = claque(9);
-        seat(z, "h");
+        ClaqueRow z = Scene.claque(9);
+        Scene.seat(z, "h");
         z.setLevel(9);
         z.addCue(0, 'c', 0, 1, 30);
         z.run(4);
@@ -452,16 +424,16 @@ public final class EveningTest {
     }
 
     private static void levelIsReached() {
-        ClaqueRow x = claque(8, 8, 8, 8, 8);
-        seat(x, "h.h.h.h.h");
+        ClaqueRow x = Scene.claque(8, 8, 8, 8, 8);
+        Scene.seat(x, "h.h.h.h.h");
         x.addCue(0, 'c', 0, 1, 30);
         x.run(5);
         Check.due("P20 40 is loud at first", 1, x::calls);
         x.setLevel(41);
         x.run(20);
         Check.due("P12 40 is not 41", 1, x::calls);
-        ClaqueRow y = claque(8, 8, 8, 8, 7);
-        seat(y, "h.h.h.h.h");
+        ClaqueRow y = Scene.claque(8, 8, 8, 8, 7);
+        Scene.seat(y, "h.h.h.h.h");
         y.addCue(0, 'c', 0, 1, 30);
         y.run(20);
         Check.due("P20 39 is not 40", 0, y::calls);
@@ -475,10 +447,10 @@ public final class EveningTest {
     }
 
     private static void callsOf() {
-        ClaqueRow x = claque(9);
+        ClaqueRow x = Scene.claque(9);
         x.addSinger(20, 1);
         x.addSinger(30, 2);
-        seat(x, "h");
+        Scene.seat(x, "h");
         x.setLevel(1);
         x.addCue(0, 'c', 0, 1, 30);
         x.addCue(2, 'w', 9, 1, 30);
@@ -501,10 +473,10 @@ public final class EveningTest {
         Check.due("P23 each one's night and calls", 50 + 7 + 20 + 3 + 30 + 2, x::endEvening);
 
         // A cue that begins in the very tick of the call has begun; one of the next tick has not.
-        ClaqueRow y = claque(9);
+        ClaqueRow y = Scene.claque(9);
         y.addSinger(20, 1);
         y.addSinger(30, 2);
-        seat(y, "h");
+        Scene.seat(y, "h");
         y.setLevel(1);
         y.addCue(0, 'c', 0, 1, 30);
         y.addCue(1, 'c', 4, 1, 1);
@@ -517,8 +489,8 @@ public final class EveningTest {
     }
 
     private static void suspicions() {
-        ClaqueRow x = claque(9);
-        seat(x, "h");
+        ClaqueRow x = Scene.claque(9);
+        Scene.seat(x, "h");
         x.addCue(0, 'c', 0, 1, 2);
         x.addCue(0, 'w', 3, 1, 1);
         x.run(1);
@@ -537,7 +509,7 @@ public final class EveningTest {
         ClaqueRow y = new ClaqueRow();
         y.addHand('l', 9, 0, 0);
         y.addSinger(0, 0);
-        seat(y, "h");
+        Scene.seat(y, "h");
         y.addCue(0, 'w', 0, 1, 1);
         y.addCue(0, 'w', 1, 1, 1);
         y.addCue(0, 'l', 1, 1, 2);
@@ -549,16 +521,16 @@ public final class EveningTest {
 
     private static void suspicionsCountPayersAndHands() {
         // Fewer payers than hands is wanted: as many are enough.
-        ClaqueRow x = claque(9, 9);
-        seat(x, "h1.1h");
+        ClaqueRow x = Scene.claque(9, 9);
+        Scene.seat(x, "h1.1h");
         x.addCue(0, 'c', 0, 1, 1);
         x.addCue(0, 'c', 1, 1, 1);
         x.run(1);
         Check.due("P21 no payer makes noise yet", 1, x::suspicions);
         x.run(1);
         Check.due("P21 two payers, two hands", 1, x::suspicions);
-        ClaqueRow y = claque(9, 9);
-        seat(y, "h1..h");
+        ClaqueRow y = Scene.claque(9, 9);
+        Scene.seat(y, "h1..h");
         y.addCue(0, 'c', 0, 1, 2);
         y.run(2);
         Check.due("P21 one payer, two hands", 1, y::suspicions);
@@ -567,7 +539,7 @@ public final class EveningTest {
         z.addHand('c', 9, 0, 0);
         z.addHand('w', 9, 0, 0);
         z.addSinger(0, 0);
-        seat(z, "h1.9h");
+        Scene.seat(z, "h1.9h");
         z.addCue(0, 'c', 0, 1, 1);
         z.addCue(0, 'w', 2, 1, 1);
         z.run(1);
@@ -577,16 +549,16 @@ public final class EveningTest {
         Check.due("P14 but is heard", 1, () -> z.noiseAt(0, 1));
         Check.due("P21 one hand, one payer who fades", 1, z::suspicions);
         // Rivals do not count.
-        ClaqueRow r = claque(9, 9, 9);
-        seat(r, "hrh", "1r.", "h..");
+        ClaqueRow r = Scene.claque(9, 9, 9);
+        Scene.seat(r, "hrh", "1r.", "h..");
         r.addCue(0, 'c', 0, 1, 3);
         r.run(3);
         Check.due("P21 one payer, three hands", 1, r::suspicions);
     }
 
     private static void foundOut() {
-        ClaqueRow x = claque(9, 5);
-        seat(x, "h.");
+        ClaqueRow x = Scene.claque(9, 5);
+        Scene.seat(x, "h.");
         x.addCue(0, 'c', 0, 1, 1);
         x.addCue(0, 'c', 1, 1, 1);
         x.addCue(0, 'c', 2, 1, 1);
@@ -615,8 +587,8 @@ public final class EveningTest {
     }
 
     private static void moreThanThreeSuspicions() {
-        ClaqueRow x = claque(9);
-        seat(x, "h");
+        ClaqueRow x = Scene.claque(9);
+        Scene.seat(x, "h");
         for (int i = 0; i < 5; i++) {
             x.addCue(0, 'c', i, 1, 5 - i);
         }
@@ -628,8 +600,8 @@ public final class EveningTest {
     }
 
     private static void toldOfThoseSeatedNow() {
-        ClaqueRow x = claque(9);
-        seat(x, "1h1");
+        ClaqueRow x = Scene.claque(9);
+        Scene.seat(x, "1h1");
         x.addCue(0, 'c', 0, 1, 30);
         x.run(2);
         Check.due("P15 all", 13, x::noise);
@@ -671,8 +643,8 @@ public final class EveningTest {
     }
 
     private static void endEveningForgets() {
-        ClaqueRow x = claque(9, 9);
-        seat(x, "h1r", "h..");
+        ClaqueRow x = Scene.claque(9, 9);
+        Scene.seat(x, "h1r", "h..");
         x.setLevel(1);
         x.addCue(0, 'c', 0, 1, 30);
         x.run(12);

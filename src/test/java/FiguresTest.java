@@ -1,3 +1,5 @@
+import java.math.BigInteger;
+
 /** Promises 32 to 35: the checksum, the shares and soundness. */
 public final class FiguresTest {
     private static final Class<?> ARITHMETIC = ArithmeticException.class;
@@ -5,6 +7,7 @@ public final class FiguresTest {
     public static void main(String[] args) {
         checksum();
         checksumOfAnEvening();
+        checksumWrapsAround();
         joiningShare();
         meanNoise();
         isSound();
@@ -55,6 +58,41 @@ public final class FiguresTest {
         Check.due("P32 all of it", sum(0, 0, 0, 0, 0, 0, 0, 0, 3, 50, 20, 10), x::checksum);
         x.newHouse(1, 1);
         Check.due("P32 a smaller house", sum(0, 0, 0, 3, 50, 20, 10), x::checksum);
+    }
+
+    /** 31 times itself for 80 seats, 4 numbers and 12 hands is far more than a long holds. */
+    private static void checksumWrapsAround() {
+        ClaqueRow x = new ClaqueRow();
+        x.newHouse(8, 10);
+        x.addSinger(999, 99);
+        for (int i = 0; i < 12; i++) {
+            x.addHand('a', 9, i % 4, 0);
+            x.seatHand(i, i / 2, 9 * (i % 2));
+        }
+        x.addCue(0, 'c', 0, 1, 1);
+        x.run(1);
+        x.endEvening();
+        x.pay(0, 999);
+        x.share();
+        x.addCue(0, 'c', 0, 1, 6);
+        x.run(5);
+        BigInteger sum = BigInteger.valueOf(7);
+        for (int place = 0; place < 80; place++) {
+            boolean hand = place < 60 && (place % 10 == 0 || place % 10 == 9);
+            sum = next(sum, hand ? 9 : 0);
+        }
+        for (int number : new int[] {1, 0, 0, 999 - 3 * (28 + 57 + 85 + 114)}) {
+            sum = next(sum, number);
+        }
+        for (int hand = 0; hand < 12; hand++) {
+            sum = next(sum, new int[] {28, 57, 85, 114}[hand % 4]);
+        }
+        Check.due("P32 more than a long holds", sum.longValue(), x::checksum);
+        Check.due("P32 the same again", sum.longValue(), x::checksum);
+    }
+
+    private static BigInteger next(BigInteger sum, int number) {
+        return sum.multiply(BigInteger.valueOf(31)).add(BigInteger.valueOf(number));
     }
 
     private static void joiningShare() {

@@ -14,6 +14,8 @@ public final class PlansTest {
         fewestHands();
         lowestHands();
         allHands();
+        sixTimesTheCalls();
+        costAheadOfNumberAheadOfOrder();
         Check.end("PlansTest");
     }
 
@@ -126,5 +128,35 @@ public final class PlansTest {
         planned(x, 3, 15, "11");
         x.addHand('l', 6, 3, 6);
         planned(x, 1, 6, "001");
+    }
+
+    /** Hands who are together as strong as this, at a price of 2 each. */
+    private static ClaqueRow together(int strength) {
+        ClaqueRow x = new ClaqueRow();
+        for (int one : Scene.strengthsOf(strength)) {
+            x.addHand('c', one, 0, 2);
+        }
+        return x;
+    }
+
+    private static void sixTimesTheCalls() {
+        for (int i = 1; i <= 18; i++) {
+            int calls = i;
+            int hands = (6 * calls + 8) / 9;
+            Check.due("P30 6 times " + calls, 2 * hands, () -> together(6 * calls).planCost(calls));
+            Check.due("P31 6 times " + calls, true, () -> together(6 * calls).isPlanned(calls, hands - 1));
+            Check.due("P30 less than 6 times " + calls, NONE, () -> together(6 * calls - 1).planCost(calls));
+            Check.due("P31 less than 6 times " + calls, NONE, () -> together(6 * calls - 1).isPlanned(calls, 0));
+        }
+    }
+
+    /** The least sum of prices wins over fewer hands, and fewer hands over a lower first one. */
+    private static void costAheadOfNumberAheadOfOrder() {
+        planned(hands(new int[] {9, 3}, new int[] {3, 1}, new int[] {3, 1}), 1, 2, "011");
+        planned(hands(new int[] {9, 2}, new int[] {3, 1}, new int[] {3, 1}), 1, 2, "100");
+        planned(hands(new int[] {3, 1}, new int[] {3, 1}, new int[] {9, 2}), 1, 2, "001");
+        planned(hands(new int[] {3, 1}, new int[] {3, 1}, new int[] {9, 3}), 1, 2, "110");
+        planned(hands(new int[] {2, 1}, new int[] {9, 2}, new int[] {5, 1}, new int[] {9, 2}), 1, 2, "0100");
+        planned(hands(new int[] {5, 0}, new int[] {6, 0}, new int[] {1, 0}), 1, 0, "010");
     }
 }
