@@ -8,6 +8,8 @@ public final class HouseTest {
         newObject();
         newHouse();
         newHouseBeginsAnew();
+        firstHouseBeginsAnewToo();
+        newHouseOfTheSameSize();
         seatPayer();
         seatRival();
         seatHand();
@@ -121,6 +123,42 @@ public final class HouseTest {
         Check.due("P2 what was owed stays", 57, () -> y.owed(0));
         y.newHouse(1, 1);
         Check.due("P2 what was owed stays", 57, () -> y.owed(0));
+    }
+
+    /** What was added ahead of the first house: cues are gone as in any new house, all else stays. */
+    private static void firstHouseBeginsAnewToo() {
+        ClaqueRow x = Scene.claque(9);
+        x.setLevel(7);
+        Check.due("P2 a cue without a house", 0, () -> x.addCue(0, 'c', 0, 1, 30));
+        Check.due("P2 another one", 1, () -> x.addCue(0, 'c', 1, 1, 30));
+        x.newHouse(1, 1);
+        x.seatHand(0, 0, 0);
+        x.run(1);
+        Check.due("P2 they are gone", 0, x::noise);
+        Check.due("P2 numbers from 0", 0, () -> x.addCue(0, 'c', 1, 1, 30));
+        x.run(1);
+        Check.due("P2 the hand stays", 9, x::noise);
+        Check.due("P2 the singer stays", 50, x::endEvening);
+        Check.due("P2 the level stays", 7, () -> x.setLevel(7));
+    }
+
+    private static void newHouseOfTheSameSize() {
+        ClaqueRow x = Scene.claque(9);
+        Scene.seat(x, "h1", "r1");
+        x.addCue(0, 'c', 0, 1, 30);
+        x.run(12);
+        x.newHouse(2, 2);
+        for (int place = 0; place < 4; place++) {
+            int row = place / 2;
+            int seat = place % 2;
+            Check.due("P2 empty", '.', () -> x.seatAt(row, seat));
+            Check.due("P2 silent", 0, () -> x.noiseAt(row, seat));
+        }
+        Check.due("P2 none joining", 0, x::joining);
+        x.seatPayer(0, 1, 1);
+        Check.due("P2 not tired", 0, () -> x.tiredness(0, 1));
+        x.run(1);
+        Check.due("P2 nothing of the tick ahead", 0, x::noise);
     }
 
     private static void seatPayer() {
