@@ -159,9 +159,11 @@ public final class FiguresTest {
         x.run(9);
         Check.due("P35 in the evening", true, x::isSound);
         x.endEvening();
-        x.pay(0, 9);
-        x.share();
         Check.due("P35 behind it", true, x::isSound);
+        x.pay(0, 9);
+        Check.due("P35 with a purse", true, x::isSound);
+        x.share();
+        Check.due("P35 with shares", true, x::isSound);
         x.newHouse(1, 1);
         Check.due("P35 in a new house", true, x::isSound);
     }
